@@ -39,7 +39,7 @@ public final class WordBridges {
         text = new Text();
         reader = new Reader();
         shelf = new Shelf();
-        through = new Through(shelf);
+        through = new Through();
         looks = new Looks();
         pairs = new Pairs();
         sentence = new Sentence();
@@ -207,13 +207,13 @@ public final class WordBridges {
     public int weight(int a, int w, int m, int c, int t) {
         if (!isTongue(a) || !isWord(w) || !isTongue(m) || !isTongue(c) || !isWord(t)) return UNKNOWN;
         if (!differ(a, m, c)) return OUTSIDE;
-        return through.ways(a, w, m, c, t);
+        return through.ways(shelf, a, w, m, c, t);
     }
 
     public int sure(int a, int w, int m, int c, int t, int what) {
         if (!isTongue(a) || !isWord(w) || !isTongue(m) || !isTongue(c) || !isWord(t)) return UNKNOWN;
         if (!differ(a, m, c) || what < 0 || what > 1) return OUTSIDE;
-        through.measure(a, w, m, c, t);
+        through.measure(shelf, a, w, m, c, t);
         int divisor = commonDivisor(through.upper, through.lower);
         int told = what == 0 ? through.upper : through.lower;
         return divisor > 1 ? told / divisor : told;
@@ -223,7 +223,7 @@ public final class WordBridges {
         if (!isTongue(a) || !isWord(w) || !isTongue(m) || !isTongue(c)) return UNKNOWN;
         if (!differ(a, m, c)) return OUTSIDE;
         through.begin();
-        through.seek(a, w, m, c);
+        through.seek(shelf, a, w, m, c);
         return through.bestWord;
     }
 
@@ -232,7 +232,7 @@ public final class WordBridges {
         if (a == c) return OUTSIDE;
         through.begin();
         for (int m = 0; m < TONGUES; m++) {
-            if (differ(a, m, c)) through.seek(a, w, m, c);
+            if (differ(a, m, c)) through.seek(shelf, a, w, m, c);
         }
         return through.bestTongue;
     }
@@ -720,7 +720,6 @@ public final class WordBridges {
 
     /** WAYS through a third TONGUE, how sure they are, and the best that was found by them. */
     private static final class Through {
-        private final Shelf shelf;
         private int upper;
         private int lower;
         private int bestUpper;
@@ -729,8 +728,7 @@ public final class WordBridges {
         private int bestWord;
         private int bestTongue;
 
-        private Through(Shelf ofBooks) {
-            shelf = ofBooks;
+        private Through() {
             upper = 0;
             lower = 1;
             bestUpper = 0;
@@ -741,7 +739,7 @@ public final class WordBridges {
         }
 
         /** WEIGHT. */
-        private int ways(int a, int w, int m, int c, int t) {
+        private int ways(Shelf shelf, int a, int w, int m, int c, int t) {
             Book told = shelf.bookAt(shelf.latest(a, w, m));
             if (told == null) return 0;
             int found = 0;
@@ -749,14 +747,14 @@ public final class WordBridges {
                 long sense = told.senseSet(w, s, shelf.agedCount);
                 for (int k = 0; k < PLACES; k++) {
                     int x = told.wordAt(w, s, k);
-                    if (has(sense, x)) found += waysOn(m, x, c, t, told.fieldOf(w, s));
+                    if (has(sense, x)) found += waysOn(shelf, m, x, c, t, told.fieldOf(w, s));
                 }
             }
             return found;
         }
 
         /** In how many SENSES of x that fit a field t stands. */
-        private int waysOn(int m, int x, int c, int t, int field) {
+        private int waysOn(Shelf shelf, int m, int x, int c, int t, int field) {
             Book told = shelf.bookAt(shelf.latest(m, x, c));
             if (told == null) return 0;
             int found = 0;
@@ -769,7 +767,7 @@ public final class WordBridges {
         }
 
         /** SURENESS, into upper and lower, not yet in least terms. */
-        private void measure(int a, int w, int m, int c, int t) {
+        private void measure(Shelf shelf, int a, int w, int m, int c, int t) {
             long there = shelf.given(a, w, m);
             long here = shelf.given(c, t, m);
             int words = Long.bitCount(there) + Long.bitCount(here);
@@ -786,12 +784,12 @@ public final class WordBridges {
         }
 
         /** Takes what is better by m than the best so far; of like ones the earlier stays. */
-        private void seek(int a, int w, int m, int c) {
+        private void seek(Shelf shelf, int a, int w, int m, int c) {
             long reached = shelf.givenByAll(m, shelf.given(a, w, m), c);
             for (int t = 0; t < WORDS; t++) {
-                int ways = has(reached, t) ? ways(a, w, m, c, t) : 0;
+                int ways = has(reached, t) ? ways(shelf, a, w, m, c, t) : 0;
                 if (ways == 0) continue;
-                measure(a, w, m, c, t);
+                measure(shelf, a, w, m, c, t);
                 if (isBetter(ways)) {
                     bestUpper = upper;
                     bestLower = lower;

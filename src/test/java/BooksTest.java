@@ -179,6 +179,7 @@ public final class BooksTest {
         check.faulty("1:1|2|3*|", 5, 8);
         check.faulty("1:1,2,3,4,5,6;", 0, -1);
         check.faulty("1:1,2,3,4,5,6,7;", 5, 14);
+        check.faulty("0:1,2,3,4,5,6,7;", 5, 14);
         check.faulty("1:1,2,3,4,5,6,17x", 5, 14);
         check.faulty("1:1,2,3,4,5,6|1,2,3,4,5,6|1,2,3,4,5,6;", 0, -1);
         check.faulty("1:1|2|3;2:1|2|3;", 0, -1);
