@@ -29,8 +29,7 @@ public final class BooksBoundsTest {
     // ---- terms
 
     private static void calls512() {
-        // not of a promise: "An object is used for at most 512 calls after it has been made"
-        bounds.of(1, "No BOOKS; NOW 999; AGED WORDS count.");
+        bounds.of(-1, "An object is used for at most 512 calls after it has been made; what later calls answer is free.");
         WordBridges x = new WordBridges();
         for (int k = 1; k <= 510; k++) bounds.due("count(0), call " + k, x.count(0), 0);
         bounds.due("feed, call 511", x.feed(4, 0x313a323bL), 4);

@@ -2,8 +2,8 @@ import java.util.List;
 
 /** What the tests of boundary cases share: each tells the promise and the sentence that it holds. */
 final class Bounds {
-    /** The number of 'Terms' in of(), where promises have theirs. */
-    static final int TERMS = 0;
+    /** The numbers of 'What it is' and 'Terms' in of(), where promises have theirs. */
+    static final int WHAT_IT_IS = -1, TERMS = 0;
 
     interface Call {
         long on(WordBridges x);
@@ -18,7 +18,12 @@ final class Bounds {
 
     /** Tells the sentence that all answers are about until the next one. DocumentTest reads these lines. */
     void of(int promise, String sentence) {
-        held = (promise == TERMS ? "Terms" : "promise " + promise) + ", \"" + sentence + "\": ";
+        held = heading(promise) + ", \"" + sentence + "\": ";
+    }
+
+    /** How the part's heading begins in the document. */
+    static String heading(int promise) {
+        return promise == WHAT_IT_IS ? "What it is" : promise == TERMS ? "Terms" : "Promise " + promise + ":";
     }
 
     void due(String call, long got, long want) {

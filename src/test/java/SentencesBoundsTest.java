@@ -312,7 +312,7 @@ public final class SentencesBoundsTest {
     }
 
     private static void putOfWords() {
-        bounds.of(25, "i = NONE the sum, else of WORD i: what = 0 the WORD (NONE: as it is, or there is none such), 1 the SENSE (NONE).");
+        bounds.of(25, "PUT OVER to b: i = NONE the sum, else of WORD i: what = 0 the WORD (NONE: as it is, or there is none such), 1 the SENSE (NONE).");
         WordBridges x = new WordBridges();
         Check.book(x, 0, 1, 0, "0:(0)0;59:(1)1|(2)2|(0)59;");
         say(x, 0, 0, 59, 7);
@@ -324,7 +324,7 @@ public final class SentencesBoundsTest {
     }
 
     private static void putOfNoWords() {
-        bounds.of(25, "i = NONE the sum, else of WORD i: what = 0 the WORD (NONE: as it is, or there is none such), 1 the SENSE (NONE).");
+        bounds.of(25, "PUT OVER to b: i = NONE the sum, else of WORD i: what = 0 the WORD (NONE: as it is, or there is none such), 1 the SENSE (NONE).");
         for (State state : new State[] {State.SOME, State.FULL}) {
             int[] none = {state.said(), state.said() + 1, 10, 11, -2, -3, Integer.MIN_VALUE, Integer.MAX_VALUE};
             for (int i : none) {
