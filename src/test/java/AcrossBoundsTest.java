@@ -26,6 +26,7 @@ public final class AcrossBoundsTest {
         fewestOfLikeOnes();
         fewestAsIfNoOthers();
         fewestThroughTongues();
+        fewestByTheLongestWay();
         fewestByDayAndTaste();
         fewestOfSets();
         fewestUnknownBits();
@@ -301,6 +302,19 @@ public final class AcrossBoundsTest {
         bounds.due("as if it were not there", x.fewest(0, 1, Check.set(0)), 5);
         bounds.due("with both", x.fewest(0, 1, Check.set(1, 2)), 7);
         bounds.due("both are needed, and one hides", x.fewest(0, 1, Check.set(0, 2)), -1);
+        // the same, the later one told first
+        WordBridges first = new WordBridges();
+        Check.book(first, 0, 2, 2, "0:9;2:0;");
+        Check.book(first, 0, 2, 1, "0:0;1:0;");
+        Check.book(first, 2, 1, 0, "0:0;");
+        bounds.due("book 0 hides book 1", first.fewest(0, 1, Check.set(0, 2)), -1);
+        bounds.due("without book 0", first.fewest(0, 1, Check.set(0, 1)), 6);
+        // only books that lead the same way hide one another
+        WordBridges ways = new WordBridges();
+        Check.book(ways, 0, 1, 1, "0:0;");
+        Check.book(ways, 0, 2, 2, "0:9;1:0;");
+        Check.book(ways, 2, 1, 3, "0:0;");
+        bounds.due("not one to another tongue, nor one from another", ways.fewest(0, 1, Check.set(0, 1)), 7);
         // of one DAY the greater number hides the other
         WordBridges y = new WordBridges();
         Check.book(y, 0, 1, 1, "0:0*;1:1;");
@@ -336,6 +350,30 @@ public final class AcrossBoundsTest {
         Check.book(y, 1, 0, 0, "0:0;");
         bounds.due("round and round", y.fewest(0, 2, 1), -1);
         bounds.due("to the next one", y.fewest(0, 1, 1), 1);
+    }
+
+    private static String steps(int from, int to, int more) {
+        StringBuilder text = new StringBuilder();
+        for (int w = from; w <= to; w++) text.append(w).append(':').append(w + more).append(';');
+        return text.toString();
+    }
+
+    private static void fewestByTheLongestWay() {
+        bounds.of(0, "FEWEST BOOKS: the least number of BOOKS of DAYS up to NOW by which alone (as if there were no others) from each WORD "
+            + "of a SET of WORDS of a some WORD of b is come to by GIVES, step by step, through whatever TONGUES; of like ones the "
+            + "first SET as a number; NONE.");
+        // round by tongues 0, 1 and 3, sixty times, through every word of theirs: in whatever order the books were told
+        int[][] orders = {{0, 1, 2, 3, 4, 5, 6}, {6, 5, 4, 3, 2, 1, 0}, {3, 0, 5, 1, 6, 4, 2}};
+        int[][] ways = {{0, 1}, {0, 1}, {1, 3}, {1, 3}, {3, 0}, {3, 0}, {3, 2}};
+        String[] texts = {
+            steps(0, 42, 0), steps(43, 59, 0), steps(0, 42, 0), steps(43, 59, 0), steps(0, 42, 1), steps(43, 58, 1), "59:0;"};
+        for (int[] order : orders) {
+            WordBridges x = new WordBridges();
+            for (int k : order) Check.book(x, ways[k][0], ways[k][1], 0, texts[k]);
+            bounds.due("books", x.count(0), 7);
+            bounds.due("by all of them", x.fewest(0, 2, 1), 127);
+            bounds.due("every word", x.fewest(0, 2, EVERY_WORD), 127);
+        }
     }
 
     private static void fewestByDayAndTaste() {

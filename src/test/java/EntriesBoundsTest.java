@@ -249,6 +249,13 @@ public final class EntriesBoundsTest {
         bounds.due("not by an aged one", x.meanings(0, 8, 1), 2);
         Check.book(x, 1, 0, 0, "1:59;2:59;");
         bounds.due("word 59 in common", x.meanings(0, 0, 1), 1);
+        // those between must be WORDS of its GIVES
+        WordBridges y = new WordBridges();
+        Check.book(y, 0, 1, 0, "9:1|2;8:0|1|2;7:1|2|59;");
+        Check.book(y, 1, 0, 0, "1:20;2:21;0:20,21;59:20,21;3:20,21;");
+        bounds.due("by words that it does not give", y.meanings(0, 9, 1), 2);
+        bounds.due("by word 0 between", y.meanings(0, 8, 1), 1);
+        bounds.due("by word 59 between", y.meanings(0, 7, 1), 1);
     }
 
     private static void meaningsRefusals() {

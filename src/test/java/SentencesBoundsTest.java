@@ -20,6 +20,9 @@ public final class SentencesBoundsTest {
         toldTwice();
         fieldsToldAlike();
         staysAsItIs();
+        sumsOfParts();
+        firstAndLastWords();
+        anotherSentence();
         sumsNoneToMost();
         firstOfLikeOnes();
         putOfWords();
@@ -270,6 +273,62 @@ public final class SentencesBoundsTest {
         over("in its second sense", x, 0, -1, -1, 3, 1, -1, -1);
         x.now(4);
         over("the day before", x, 0, -1, -1, -1, -1, -1, -1);
+    }
+
+    private static void sumsOfParts() {
+        bounds.of(0, "PUT OVER to b: for each WORD a SENSE and a WORD of it are chosen (a WORD without any, by THE TASTE, stays as it is: "
+            + "NONE): the most of the sum of STRENGTHS of chosen WORDS side by side (told pairs of b, in this order; of one pair told "
+            + "twice the last), and 10 for each two side by side whose SENSES have one FIELD (told).");
+        WordBridges x = new WordBridges();
+        Check.book(x, 0, 1, 0, "1:1,2;2:3,4;");
+        x.pair(1, 2, 4, 30);
+        say(x, 0, 50, 1, 2);
+        over("behind one that stays", x, 30, -1, -1, 2, 0, 4, 0);
+        say(x, 0, 50);
+        over("ahead of one that stays", x, 30, -1, -1, 2, 0, 4, 0, -1, -1);
+        say(x, 0, 50, 1, 2, 50);
+        over("two parts", x, 60, -1, -1, 2, 0, 4, 0, -1, -1, -1, -1, 2, 0, 4, 0, -1, -1);
+        x.clear();
+        say(x, 0, 2, 50, 1, 2, 50, 50, 50, 1, 2, 1);
+        over("four parts", x, 60, 3, 0, -1, -1, 2, 0, 4, 0, -1, -1, -1, -1, -1, -1, 2, 0, 4, 0, 1, 0);
+    }
+
+    private static void firstAndLastWords() {
+        bounds.of(0, "PUT OVER to b: for each WORD a SENSE and a WORD of it are chosen (a WORD without any, by THE TASTE, stays as it is: "
+            + "NONE): the most of the sum of STRENGTHS of chosen WORDS side by side (told pairs of b, in this order; of one pair told "
+            + "twice the last), and 10 for each two side by side whose SENSES have one FIELD (told).");
+        for (int y : new int[] {0, 1, 58, 59}) {
+            WordBridges x = new WordBridges();
+            Check.book(x, 0, 1, 0, "1:20|(1)21;2:(1)" + y + ";");
+            say(x, 0, 1, 2);
+            x.pair(1, 20, y, 50);
+            over("a pair of 20 is none of 21, " + y, x, 50, 20, 0, y, 0);
+            x.pair(1, 21, y, 41);
+            over("a pair of each, " + y, x, 51, 21, 1, y, 0);
+        }
+    }
+
+    private static void anotherSentence() {
+        bounds.of(0, "PUT OVER to b: for each WORD a SENSE and a WORD of it are chosen (a WORD without any, by THE TASTE, stays as it is: "
+            + "NONE): the most of the sum of STRENGTHS of chosen WORDS side by side (told pairs of b, in this order; of one pair told "
+            + "twice the last), and 10 for each two side by side whose SENSES have one FIELD (told).");
+        WordBridges x = new WordBridges();
+        Check.book(x, 0, 1, 0, "1:1,2;2:3,4;");
+        x.pair(1, 2, 4, 30);
+        say(x, 0, 1, 2, 1, 2);
+        over("a longer one", x, 60, 2, 0, 4, 0, 2, 0, 4, 0);
+        x.clear();
+        say(x, 0, 1);
+        over("nothing of it in a shorter one", x, 0, 1, 0, -1, -1, -1, -1);
+        x.clear();
+        say(x, 0, 1, 50, 50, 50);
+        over("one of words that stay", x, 0, 1, 0, -1, -1, -1, -1, -1, -1);
+        x.clear();
+        say(x, 0, 1, 2, 2, 1);
+        over("nothing of it in another one", x, 30, 2, 0, 4, 0, 3, 0, 1, 0);
+        bounds.due("to another tongue", x.put(2, -1, 0), 0);
+        bounds.due("its words there", x.put(2, 0, 0), -1);
+        over("and back to the first", x, 30, 2, 0, 4, 0, 3, 0, 1, 0);
     }
 
     private static void sumsNoneToMost() {

@@ -24,6 +24,7 @@ public final class TextBoundsTest {
         faultFour();
         faultFive();
         bookIsMade();
+        nothingOfEarlierTexts();
         bookRefusals();
         bookFull();
         faultOfTheLatest();
@@ -407,6 +408,11 @@ public final class TextBoundsTest {
         bounds.faulty("1:1;2:1|2|3|4;", 5, 11);
         bounds.sound("1:" + SIX + ";");
         bounds.faulty("1:" + SIX + ",6;", 5, 14);
+        bounds.faulty("0:" + SIX + ",6;", 5, 14);
+        bounds.faulty("59:" + SIX + ",6;", 5, 15);
+        bounds.sound("0:1|2|3;59:1|2|3;");
+        bounds.faulty("0:1|2|3|4;", 5, 7);
+        bounds.faulty("59:1|2|3|4;", 5, 8);
         bounds.faulty("1:" + SIX + ", 59;", 5, 15);
         bounds.sound("1:" + SIX + "|" + SIX + "|" + SIX + ";");
         bounds.faulty("1:" + SIX + "|" + SIX + "|" + SIX + ",6;", 5, 38);
@@ -429,6 +435,35 @@ public final class TextBoundsTest {
         }
         bounds.due("the second", Check.book(x, 0, 1, 0, "1:3;"), 1);
         for (int k = 2; k < 8; k++) bounds.due("of no text", x.book(0, 1, 0), k);
+    }
+
+    private static void nothingOfEarlierTexts() {
+        bounds.of(3, "THE TEXT (it is empty then) becomes a BOOK: its number; -10 less the number of its FAULT.");
+        String[] faulty = {"0:(1)1*,2|(2)3,4|5;1:(3)6|7*;59:(1)8*|9;x", "0:1,2|3,4|5,6|7;", "1:1;59:1,2|3*|4;0:1|2,2;"};
+        for (String text : faulty) {
+            WordBridges x = new WordBridges();
+            Check.book(x, 0, 1, 0, text);
+            bounds.due("a sound one behind '" + text + "'", Check.book(x, 0, 1, 0, "0:10;59:11,12;"), 0);
+            int[] about = {0, 1, 0, 2, 2, 3, 0};
+            int[] first = {0, 1, -1, -1, -1, 1, -1, -1};
+            int[] last = {0, 1, -1, -1, -1, 2, -1, -1};
+            for (int what = 0; what < 7; what++) bounds.due("about, " + what, x.about(0, what), about[what]);
+            for (int what = 0; what < 8; what++) {
+                bounds.due("entry of word 0, " + what, x.entry(0, 0, 1, what), first[what]);
+                bounds.due("entry of word 1, " + what, x.entry(0, 1, 1, what), -1);
+                bounds.due("entry of word 59, " + what, x.entry(0, 59, 1, what), last[what]);
+            }
+            bounds.due("gives of word 0", x.gives(0, 0, 1), Check.set(10));
+            bounds.due("gives of word 1", x.gives(0, 1, 1), 0);
+            bounds.due("gives of word 59", x.gives(0, 59, 1), Check.set(11, 12));
+        }
+        WordBridges y = new WordBridges();
+        bounds.due("a longer text", Check.book(y, 0, 1, 0, "1:111111;"), -12);
+        bounds.due("a shorter one, of its first bytes", Check.book(y, 0, 1, 0, "1:11"), -11);
+        bounds.due("its end", y.fault(), 4);
+        bounds.due("a longer text", Check.book(y, 0, 1, 0, "1:22;"), 0);
+        bounds.due("a shorter one, that the longer one would end", Check.book(y, 0, 1, 0, "1:22"), -11);
+        bounds.due("its end", y.fault(), 4);
     }
 
     private static void bookRefusals() {

@@ -248,6 +248,16 @@ public final class ThroughBoundsTest {
         bounds.due("the surer, of less weight", x.bridge(0, 0, 1), 2);
         Check.book(x, 1, 3, 0, "9:1,2,3;");
         bounds.due("as sure, of more weight", x.bridge(0, 0, 1), 3);
+        // the first tongue as the bridge, and the last one
+        WordBridges z = new WordBridges();
+        Check.book(z, 1, 0, 0, "0:1;");
+        Check.book(z, 0, 2, 0, "1:9;");
+        bounds.due("0 alone", z.bridge(1, 0, 2), 0);
+        Check.book(z, 1, 3, 0, "0:1;");
+        Check.book(z, 3, 2, 0, "1:9;");
+        bounds.due("0 and 3 alike", z.bridge(1, 0, 2), 0);
+        Check.book(z, 2, 3, 0, "9:1;");
+        bounds.due("3 is surer", z.bridge(1, 0, 2), 3);
         // the weight that counts is that of the best, not of another word
         WordBridges y = new WordBridges();
         Check.book(y, 0, 2, 0, "0:1;");
