@@ -325,6 +325,7 @@ public final class SentencesBoundsTest {
         over("one of words that stay", x, 0, 1, 0, -1, -1, -1, -1, -1, -1);
         x.clear();
         say(x, 0, 1, 2, 2, 1);
+        bounds.due("its word 1 asked for at once", x.put(1, 1, 0), 4);
         over("nothing of it in another one", x, 30, 2, 0, 4, 0, 3, 0, 1, 0);
         bounds.due("to another tongue", x.put(2, -1, 0), 0);
         bounds.due("its words there", x.put(2, 0, 0), -1);
